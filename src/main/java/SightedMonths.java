@@ -36,6 +36,7 @@ public final class SightedMonths {
     private static final int SEEN = 0;
     private static final int CLEAR = 1;
     private static final int CLOUD = 2;
+    private static final int KINDS = 3;
     private static final int STRUCK = 3;
 
     private static final int TAKEN = 0;
@@ -1353,17 +1354,13 @@ public final class SightedMonths {
             full = almanac.full;
             lean = almanac.lean;
             for (int month = 0; month <= months; month++) {
-                allowed[month] = upTo(month);
+                allowed[month] = (2 << month) - 1;
             }
-        }
-
-        static int upTo(int ahead) {
-            return (1 << (ahead + 1)) - 1;
         }
 
         /** How many MONTHS of 30 days may be ahead of the REPORT's MONTH, as bits, if it is so. */
         static int rightFor(Report report) {
-            int all = upTo(report.month);
+            int all = (2 << report.month) - 1;
             int ahead = report.day + 1 - SHORT_DAYS * report.month;
             if (report.kind == CLOUD || (report.kind == CLEAR && ahead < 0)) {
                 return all;
@@ -1371,7 +1368,7 @@ public final class SightedMonths {
             if (ahead < 0 || ahead > report.month) {
                 return 0;
             }
-            return report.kind == SEEN ? 1 << ahead : all & ~upTo(ahead);
+            return report.kind == SEEN ? 1 << ahead : all & -2 << ahead;
         }
 
         void narrow(Report report) {
@@ -1417,6 +1414,7 @@ public final class SightedMonths {
 
     /** How the REPORTS of an ALMANAC are JUDGED by a T, and the OFFICIAL CALENDAR that comes of it. */
     private static final class Court {
+        /** 27 to the sixth: no name is told by as great a number. */
         private static final int NAMES = 387420489;
 
         final Frame frame = new Frame();
@@ -1472,7 +1470,7 @@ public final class SightedMonths {
             turn = turn * NAMES + place.name;
             turn = turn * MOST_MONTHS + report.month;
             turn = turn * (LAST_DAY + 1) + report.day;
-            turn = turn * STRUCK + report.kind;
+            turn = turn * KINDS + report.kind;
             return turn * MOST_REPORTS + number;
         }
 
@@ -1519,30 +1517,49 @@ public final class SightedMonths {
             before[0] = 1;
             for (int month = 0; month < months; month++) {
                 for (int ahead = 0; ahead <= month; ahead++) {
-                    for (int run = firstRun(month); run <= lastRun(month, full, lean); run++) {
-                        int many = before[spot(month, ahead, run)];
-                        if (many > 0) {
-                            goOn(frame, month + 1, ahead + 1, runWithFull(run, full), many);
-                            goOn(frame, month + 1, ahead, runWithLean(run, full, lean), many);
-                        }
+                    if (frame.allows(month + 1, ahead + 1)) {
+                        takeOnWithFull(month, ahead);
+                    }
+                    if (frame.allows(month + 1, ahead)) {
+                        takeOnWithLean(month, ahead);
                     }
                 }
             }
         }
 
-        private void goOn(Frame frame, int month, int ahead, int run, int many) {
-            if (run != 0 && frame.allows(month, ahead)) {
-                before[spot(month, ahead, run)] += many;
+        private void takeOnWithFull(int month, int ahead) {
+            int here = spot(month, ahead, 0);
+            int there = spot(month + 1, ahead + 1, 0);
+            for (int run = firstRun(month); run <= lastRun(month, full, lean); run++) {
+                int next = runWithFull(run, full);
+                if (next != 0) {
+                    before[there + next] += before[here + run];
+                }
+            }
+        }
+
+        private void takeOnWithLean(int month, int ahead) {
+            int here = spot(month, ahead, 0);
+            int there = spot(month + 1, ahead, 0);
+            for (int run = firstRun(month); run <= lastRun(month, full, lean); run++) {
+                int next = runWithLean(run, full, lean);
+                if (next != 0) {
+                    before[there + next] += before[here + run];
+                }
             }
         }
 
         private void countBehind() {
-            for (int month = months; month >= 0; month--) {
+            int first = spot(months, 0, 0);
+            for (int here = first; here < first + (months + 1) * RUNS; here++) {
+                behind[here] = Math.min(before[here], 1);
+            }
+            for (int month = months - 1; month >= 0; month--) {
                 for (int ahead = 0; ahead <= month; ahead++) {
+                    int here = spot(month, ahead, 0);
                     for (int run = firstRun(month); run <= lastRun(month, full, lean); run++) {
-                        int here = spot(month, ahead, run);
-                        if (before[here] > 0) {
-                            behind[here] = month == months ? 1 : withFull(month, ahead, run) + withLean(month, ahead, run);
+                        if (before[here + run] > 0) {
+                            behind[here + run] = withFull(month, ahead, run) + withLean(month, ahead, run);
                         }
                     }
                 }
@@ -1552,10 +1569,10 @@ public final class SightedMonths {
         private void countStarts() {
             for (int month = 0; month <= months; month++) {
                 for (int ahead = 0; ahead <= month; ahead++) {
+                    int here = spot(month, ahead, 0);
                     int sum = 0;
                     for (int run = firstRun(month); run <= lastRun(month, full, lean); run++) {
-                        int here = spot(month, ahead, run);
-                        sum += before[here] * behind[here];
+                        sum += before[here + run] * behind[here + run];
                     }
                     starts[cell(month, ahead)] = sum;
                 }
