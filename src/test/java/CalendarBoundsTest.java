@@ -293,6 +293,12 @@ public final class CalendarBoundsTest {
             due(seed[1] % 2, Texts.of(YEARS).drawn(0, seed[0]));
             due(0, Texts.of(YEARS + "place a trust 1;seen a month 1 on 29;").drawn(29, seed[0]));
         }
+        says(25, "What is DRAWN by a seed: which of these. -2.");
+        due(-2, free.drawn(-1, 0));
+        due(-2, free.drawn(1000, 0));
+        SightedMonths held = Texts.of(FOUR + "place a trust 1;seen a month 1 on 28;");
+        due(16838 % 10, held.drawn(27, 1));
+        due(16838 % 5, held.drawn(28, 1));
         for (int seed : new int[] {LEAST, LEAST + 1, MOST, MOST - 1, 12345, -987654321}) {
             java.math.BigInteger whole = java.math.BigInteger.valueOf(seed).multiply(java.math.BigInteger.valueOf(1103515245))
                 .add(java.math.BigInteger.valueOf(12345)).mod(java.math.BigInteger.ONE.shiftLeft(32)).shiftRight(16);

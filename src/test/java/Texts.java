@@ -64,7 +64,7 @@ final class Texts {
                 text.append("place ").append(name).append(" trust ").append(random.nextInt(10)).append(";\n");
             }
         }
-        int reports = names.isEmpty() ? 0 : random.nextInt(14);
+        int reports = names.isEmpty() ? 0 : random.nextInt(8) == 0 ? 24 : random.nextInt(14);
         for (int i = 0; i < reports; i++) {
             text.append(report(random, months, names.get(random.nextInt(names.size())))).append(';');
         }
