@@ -305,6 +305,10 @@ public final class JudgingBoundsTest {
         due(2, y.judged(999, 3));
         due(1 << 1 | 1 << 2, y.against(999, 3));
         due(1 << 2, y.against(87, 3));
+        // There is no CALENDAR for it, and nobody is against it.
+        SightedMonths alone = Texts.of(FOUR + "place a trust 9;seen a month 1 on 99;");
+        due(2, alone.judged(999, 0));
+        due(0, alone.against(999, 0));
         // As bit 23, too.
         SightedMonths last = Texts.of(FOUR + "place a trust 9;place b trust 1;seen b month 1 on 28;" + "cloud a month 1 on 1;".repeat(22)
             + "seen a month 1 on 29;");
