@@ -36,20 +36,24 @@ final class Checks {
         }
     }
 
-    private static String plain(String text) {
+    static String plain(String text) {
         return text.replaceAll("\\s+", " ");
     }
 
-    /** From "Terms" on, or from a promise on, to the next heading. */
-    private String part(int promise) {
-        int from = document.indexOf(promise == 0 ? "## Terms" : "## Promise " + promise + ":");
+    private static String heading(int promise) {
+        return promise < 0 ? "What it is" : promise == 0 ? "Terms" : "Promise " + promise + ":";
+    }
+
+    /** From a heading on to the next one; all blanks are single ones. */
+    String part(int promise) {
+        int from = document.indexOf("## " + heading(promise));
         int to = from < 0 ? -1 : document.indexOf(" ## ", from + 1);
         return from < 0 ? "" : document.substring(from, to < 0 ? document.length() : to);
     }
 
-    /** Promise 0: what the terms say. */
+    /** Promise 0: what the terms say; -1: what the class is. */
     void says(int promise, String sentence) {
-        where = (promise == 0 ? "terms" : "promise " + promise) + ", \"" + sentence + "\"";
+        where = heading(promise) + " \"" + sentence + "\"";
         row = 0;
         sentences.add(where);
         if (!document.isEmpty() && !part(promise).contains(plain(sentence))) {
